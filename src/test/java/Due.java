@@ -1,0 +1,63 @@
+import java.nio.charset.StandardCharsets;
+
+/** Counts and prints the calls of a test whose answer is not the one that is due. */
+final class Due {
+    private static int calls;
+    private static int wrong;
+
+    private Due() {
+    }
+
+    static void is(String call, long got, long want) {
+        calls++;
+        if (got != want) {
+            wrong++;
+            System.out.println(call + " answered " + got + ", due is " + want);
+        }
+    }
+
+    /** Ends the test: exit code 1 if there was a wrong answer, or no call at all. */
+    static void end(String test) {
+        System.out.println(test + ": " + calls + " answers, " + wrong + " wrong");
+        System.exit(wrong == 0 && calls > 0 ? 0 : 1);
+    }
+
+    /** Feeds a text, byte by byte as it stands, and cuts the blanks behind it off. */
+    static void feed(ButterChurn x, String text) {
+        feed(x, text.getBytes(StandardCharsets.ISO_8859_1));
+    }
+
+    static void feed(ButterChurn x, byte[] text) {
+        for (int at = 0; at < text.length; at += 8) {
+            x.feed(eight(text, at));
+        }
+        x.end(text.length);
+    }
+
+    static long eight(byte[] text, int at) {
+        long v = 0;
+        for (int i = at; i < at + 8; i++) {
+            v = v << 8 | (i < text.length ? text[i] & 255 : 32);
+        }
+        return v;
+    }
+
+    /** A new object to which a text was told. */
+    static ButterChurn told(String text) {
+        ButterChurn x = new ButterChurn();
+        feed(x, text);
+        if (x.dairy() < 0) {
+            is("dairy() of " + text + ", fault", x.fault(), 0);
+        }
+        return x;
+    }
+
+    /** A text is told: its answer, then its fault. */
+    static void text(String text, int answer, int fault) {
+        ButterChurn x = new ButterChurn();
+        feed(x, text);
+        is("dairy() of '" + text + "'", x.dairy(), answer);
+        is("fault() of '" + text + "'", x.fault(), fault);
+        is("count(3) behind '" + text + "'", x.count(3), 0);
+    }
+}
