@@ -516,8 +516,9 @@ public final class ButterChurn {
             if (trial.hasCome()) {
                 return turns;
             }
-            // A swollen churn stays swollen as long as it is only turned.
-            if (!falls) {
+            // As long as it is only turned, a swollen churn stays swollen, and soft drops stay soft
+            // because it grows no colder: then it never comes.
+            if (!falls || trial.hardness(told) == 0) {
                 return NONE;
             }
         }
@@ -568,7 +569,7 @@ public final class ButterChurn {
             figures /= 10;
         }
         for (int pass = 0; pass < passes; pass++) {
-            // Upwards, so that what comes down into a class is not halved in the same pass.
+            // Upwards, so that what comes down into a class does not come down further in the same pass.
             for (int k = 1; k < water.length; k++) {
                 water[k - 1] += 2 * water[k];
                 water[k] = 0;
@@ -603,11 +604,11 @@ public final class ButterChurn {
     }
 
     private static long power(long v, int n) {
-        long power = 1;
+        long product = 1;
         for (int i = 0; i < n; i++) {
-            power *= v;
+            product *= v;
         }
-        return power;
+        return product;
     }
 
     /** The numerator or the denominator of a fraction in lowest terms. */
@@ -628,7 +629,7 @@ public final class ButterChurn {
     private static final class Told {
         static final int CHURN = 0, BASE = 1, SLOPE = 2, BEAT = 3, SWELL = 4, GRAIN = 5, HEAT = 6;
         static final int LOW = 7, HIGH = 8;
-        /** A cow's two numbers, the drops of a litre, the rules. */
+        /** How many numbers a text tells: a cow's two, the drops of a litre, the rules. */
         static final int ALL = 15;
         private static final int[] FIRST_RULES = {100, 130, 10, 10, 20, 4, 10, 20, 80};
         private static final int[] FIRST_DROPS = {64, 16, 4, 0};

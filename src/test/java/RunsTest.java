@@ -102,6 +102,12 @@ public final class RunsTest {
         Due.is("run(1, 130, 1, 399, 13)", y.run(1, 130, 1, 399, 13), 5);
         Due.is("run(1, 130, 1, 400, 13)", y.run(1, 130, 1, 400, 13), 3);
         Due.is("comes(1, 130, 1)", y.comes(1, 130, 1), ButterChurn.NONE);
+        // Hardness 1 is enough, with many drops: RATE 3 at most.
+        ButterChurn hardly = Due.told("cow 50 1;drops 0 0 99 0;grain 3;beat 50 0;soft 130 1;heat 99;churn 400;");
+        int came = hardly.comes(1, 130, 9);
+        Due.is("whether it comes by hardness 1", came > 0 ? 1 : 0, 1);
+        Due.is("now(5) of that run", hardly.run(1, 130, 9, came, 5), came - 1);
+        Due.is("now(5) of it, a turn less", hardly.run(1, 130, 9, came - 1, 5), ButterChurn.NONE);
         // Five drops of class 2 and one of 3: then there is just half, in the 400th turn.
         ButterChurn z = Due.told("cow 1 50;drops 0 0 5 1;grain 3;beat 1 0;soft 130 1;heat 99;");
         Due.is("comes in the 400th turn", z.comes(1, 130, 1), 400);
@@ -155,6 +161,12 @@ public final class RunsTest {
         for (int what = 0; what < 4; what++) {
             Due.is("plan(1, " + what + ") of alike ones", x.plan(1, what), first[what]);
         }
+        // Two of four drops join when RATE is 50, so as much is left by every pace: the fewest turns.
+        ButterChurn z = Due.told("cow 1 50;drops 0 0 0 4;grain 4;beat 10 0;soft 130 1;heat 99;");
+        int[] fewest = {0, 9, 6, 16};
+        for (int what = 0; what < 4; what++) {
+            Due.is("plan(1, " + what + ") of as much left", z.plan(1, what), fewest[what]);
+        }
         // The hardness behind the turn: it is warmer by the pace then. 50 at 300; 45 wanted.
         ButterChurn y = Due.told("cow 1 50;drops 0 0 0 9;grain 3;soft 300 99;beat 0 0;heat 1;good 45 45;");
         // Warmth 300 and pace 6 make 6 times 99 by 100, divided down 5.
@@ -179,6 +191,8 @@ public final class RunsTest {
         // One is enough, and of several the least bits.
         without("cow 10 50;cow 10 50;cow 10 80;good 65 65;", 1, 1);
         without("cow 10 10;cow 10 10;good 20 80;", ButterChurn.NONE, ButterChurn.NONE);
+        // Of one cow and of two, one, though the bits of these two are less.
+        without("cow 10 60;cow 10 70;cow 10 80;cow 10 20;good 50 50;", 1, 4);
         // Divided down: 20 and 21 by two is 20.
         without("cow 10 20;cow 10 21;good 20 20;", 0, 0);
         without("cow 1 0;cow 1 0;cow 1 0;cow 1 0;cow 1 0;cow 1 0;cow 1 0;cow 1 9;good 9 9;", 7, 127);
@@ -287,6 +301,10 @@ public final class RunsTest {
         Due.is("next(1, 0) at warmth 0", cold.next(1, 0), ButterChurn.NONE);
         ButterChurn hot = Due.told("cow 10 100;drops 0 0 0 9;grain 4;churn 400;beat 50 0;soft 400 99;");
         Due.is("next(1, 0) at warmth 400", hot.next(1, 0), ButterChurn.NONE);
+        // From warmth 10 it is 0: by base 1 it is just not soft there.
+        ButterChurn least = Due.told("cow 50 0;drops 0 0 99 0;grain 3;churn 400;beat 50 0;soft 1 99;heat 99;");
+        least.warm(10);
+        Due.is("next(9, 0) at warmth 10", least.next(9, 0), 3);
         hot.warm(395);
         // It is warmer than 400 nowhere, and less hard at no warmth up to it: HARD 100 stays above.
         Due.is("next(1, 0) at warmth 395", hot.next(1, 0), ButterChurn.NONE);

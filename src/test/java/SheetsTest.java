@@ -235,6 +235,12 @@ public final class SheetsTest {
         // A sheet made anew has cells 0, of another lane.
         x.sheet(1, 2, 4);
         Due.is("read of cells 0", x.read(1, 2, 0, 1), -20);
+        x.lay(1, 1, 3);
+        Due.is("read of a cell 0 and a pace", x.read(1, 2, 0, 1), -20);
+        x.lay(1, 0, 3);
+        x.sheet(1, 2, 4);
+        x.lay(1, 1, 3);
+        Due.is("read of a cell 0, made anew, and a pace", x.read(1, 2, 0, 1), -20);
     }
 
     private static void counted() {

@@ -141,6 +141,8 @@ public final class TextTest {
 
     private static void misplaced() {
         Due.text("ox 10 20;", -10, 2);
+        Due.text("a", -10, 2);
+        Due.text("z", -10, 2);
         Due.text(" cows 10 20;", -11, 2);
         Due.text("co w 10 20;", -10, 2);
         Due.text("dropsy", -10, 2);
