@@ -569,7 +569,7 @@ public final class ButterChurn {
             figures /= 10;
         }
         for (int pass = 0; pass < passes; pass++) {
-            // Upwards, so that what comes down into a class does not come down further in the same pass.
+            // Upwards, so that what comes down into a class comes no further in the same pass.
             for (int k = 1; k < water.length; k++) {
                 water[k - 1] += 2 * water[k];
                 water[k] = 0;
