@@ -4,21 +4,41 @@ import java.nio.charset.StandardCharsets;
 final class Due {
     private static int calls;
     private static int wrong;
+    private static int sentences;
+    private static String sentence = "";
+    private static int callsAhead;
 
     private Due() {
+    }
+
+    /** The test of one sentence of the document begins; that of the one ahead must have had a call. */
+    static void sentence(String words) {
+        endSentence();
+        sentences++;
+        sentence = "[" + words + "] ";
+        callsAhead = calls;
+    }
+
+    private static void endSentence() {
+        if (!sentence.isEmpty() && calls == callsAhead) {
+            wrong++;
+            System.out.println(sentence + "has no call");
+        }
     }
 
     static void is(String call, long got, long want) {
         calls++;
         if (got != want) {
             wrong++;
-            System.out.println(call + " answered " + got + ", due is " + want);
+            System.out.println(sentence + call + " answered " + got + ", due is " + want);
         }
     }
 
     /** Ends the test: exit code 1 if there was a wrong answer, or no call at all. */
     static void end(String test) {
-        System.out.println(test + ": " + calls + " answers, " + wrong + " wrong");
+        endSentence();
+        String of = sentences > 0 ? sentences + " sentences, " : "";
+        System.out.println(test + ": " + of + calls + " answers, " + wrong + " wrong");
         System.exit(wrong == 0 && calls > 0 ? 0 : 1);
     }
 
