@@ -401,6 +401,15 @@ public final class ChurnEdgesTest {
             x.turn(1, pace);
             drops(x, 0, 0, 0, 100 - 2 * joined[pace], joined[pace]);
         }
+        // Of many drops it is seen that RATE is 100, and no more.
+        ButterChurn many = Due.told("cow 50 0;drops 0 0 0 99;grain 3;beat 0 0;");
+        many.turn(1, 1);
+        many.keep(0);
+        for (int pace = 4; pace <= 9; pace++) {
+            many.back(0);
+            many.turn(1, pace);
+            drops(many, 0, 0, 0, pace == 4 ? 990 : 0, pace == 4 ? 1980 : 2475);
+        }
         // Nine drops by RATE 20 are 0.9, ten are two by two one.
         ButterChurn nine = Due.told("cow 1 0;drops 0 0 0 9;grain 3;");
         nine.turn(400, 1);

@@ -26,11 +26,22 @@ final class Due {
         }
     }
 
-    static void is(String call, long got, long want) {
+    /** Whether the answer is the one that is due: where it is not, a dear call behind it can be left. */
+    static boolean is(String call, long got, long want) {
         calls++;
         if (got != want) {
             wrong++;
             System.out.println(sentence + call + " answered " + got + ", due is " + want);
+        }
+        return got == want;
+    }
+
+    /** Calls of new objects that are BAD, each as a number is not as told. */
+    static void bad(String what, Look.Call... made) {
+        for (int i = 0; i < made.length; i++) {
+            if (!is("bad " + what + " " + i, made[i].on(new ButterChurn()), ButterChurn.BAD)) {
+                return;
+            }
         }
     }
 

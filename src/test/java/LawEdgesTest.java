@@ -1,6 +1,5 @@
 /** Promises 29 to 31: each sentence that names a boundary case, by itself. */
 public final class LawEdgesTest {
-    private static final int BAD = ButterChurn.BAD;
     private static final int MIN = Integer.MIN_VALUE, MAX = Integer.MAX_VALUE;
 
     private LawEdgesTest() {
@@ -33,12 +32,6 @@ public final class LawEdgesTest {
         Due.end("LawEdgesTest");
     }
 
-    private static void bad(String what, Look.Call... calls) {
-        for (int i = 0; i < calls.length; i++) {
-            Due.is("bad " + what + " " + i, calls[i].on(new ButterChurn()), BAD);
-        }
-    }
-
     private static void rod(int r, int a, int b, int c, int over, int under) {
         ButterChurn x = new ButterChurn();
         String call = "rod(" + r + ", " + a + ", " + b + ", " + c;
@@ -50,7 +43,7 @@ public final class LawEdgesTest {
 
     private static void rodShown() {
         Due.sentence("29: water r (0 to 30): BAD");
-        bad("rod", x -> x.rod(-1, 1, 1, 1, 0), x -> x.rod(31, 1, 1, 1, 0), x -> x.rod(MAX, 1, 1, 1, 0),
+        Due.bad("rod", x -> x.rod(-1, 1, 1, 1, 0), x -> x.rod(31, 1, 1, 1, 0), x -> x.rod(MAX, 1, 1, 1, 0),
                 x -> x.rod(MIN, 1, 1, 1, 1), x -> x.rod(31, 1, 0, 0, 1));
         rod(0, 1, 1, 1, 0, 1);
         rod(30, 1, 1, 1, 1, 1);
@@ -58,7 +51,7 @@ public final class LawEdgesTest {
 
     private static void rodChances() {
         Due.sentence("29: chances a, b, c (0 to 9): BAD");
-        bad("rod", x -> x.rod(5, -1, 1, 1, 0), x -> x.rod(5, 10, 1, 1, 0), x -> x.rod(5, 1, -1, 1, 0),
+        Due.bad("rod", x -> x.rod(5, -1, 1, 1, 0), x -> x.rod(5, 10, 1, 1, 0), x -> x.rod(5, 1, -1, 1, 0),
                 x -> x.rod(5, 1, 10, 1, 0), x -> x.rod(5, 1, 1, -1, 0), x -> x.rod(5, 1, 1, 10, 0),
                 x -> x.rod(5, MAX, 1, 1, 0), x -> x.rod(5, 1, MIN, 1, 0), x -> x.rod(5, -1, 1, 0, 0),
                 x -> x.rod(5, MIN, MIN, 1, 0), x -> x.rod(5, 1, -1, 0, 1));
@@ -70,7 +63,7 @@ public final class LawEdgesTest {
 
     private static void rodNotAllZero() {
         Due.sentence("29: not all 0: BAD");
-        bad("rod", x -> x.rod(5, 0, 0, 0, 0), x -> x.rod(17, 0, 0, 0, 1), x -> x.rod(0, 0, 0, 0, 0));
+        Due.bad("rod", x -> x.rod(5, 0, 0, 0, 0), x -> x.rod(17, 0, 0, 0, 1), x -> x.rod(0, 0, 0, 0, 0));
         rod(16, 1, 0, 0, 1, 1);
         rod(17, 0, 1, 0, 1, 1);
         rod(18, 0, 0, 1, 1, 1);
@@ -78,7 +71,7 @@ public final class LawEdgesTest {
 
     private static void rodWhat() {
         Due.sentence("29: 0, 1; BAD");
-        bad("rod", x -> x.rod(5, 1, 1, 1, -1), x -> x.rod(5, 1, 1, 1, 2), x -> x.rod(5, 1, 1, 1, MAX),
+        Due.bad("rod", x -> x.rod(5, 1, 1, 1, -1), x -> x.rod(5, 1, 1, 1, 2), x -> x.rod(5, 1, 1, 1, MAX),
                 x -> x.rod(5, 1, 1, 1, MIN));
         rod(17, 1, 2, 4, 3, 7);
     }
@@ -129,7 +122,7 @@ public final class LawEdgesTest {
 
     private static void nearChances() {
         Due.sentence("30: chances (0 to 9, not all 0): BAD");
-        bad("near", x -> x.near(-1, 1, 1, 1, 1), x -> x.near(10, 1, 1, 1, 1), x -> x.near(1, -1, 1, 1, 1),
+        Due.bad("near", x -> x.near(-1, 1, 1, 1, 1), x -> x.near(10, 1, 1, 1, 1), x -> x.near(1, -1, 1, 1, 1),
                 x -> x.near(1, 10, 1, 1, 1), x -> x.near(1, 1, -1, 1, 1), x -> x.near(1, 1, 10, 1, 1),
                 x -> x.near(0, 0, 0, 1, 1), x -> x.near(MAX, 1, 1, 1, 1), x -> x.near(1, MIN, 1, 1, 1),
                 x -> x.near(0, 0, 0, 0, 1));
@@ -141,7 +134,7 @@ public final class LawEdgesTest {
 
     private static void nearShare() {
         Due.sentence("30: x by y (0 to 99, 1 to 99): BAD");
-        bad("near", x -> x.near(1, 1, 1, -1, 1), x -> x.near(1, 1, 1, 100, 1), x -> x.near(1, 1, 1, 1, 0),
+        Due.bad("near", x -> x.near(1, 1, 1, -1, 1), x -> x.near(1, 1, 1, 100, 1), x -> x.near(1, 1, 1, 1, 0),
                 x -> x.near(1, 1, 1, 0, 0), x -> x.near(1, 1, 1, 1, 100), x -> x.near(1, 1, 1, 1, -1),
                 x -> x.near(1, 1, 1, MAX, 1), x -> x.near(1, 1, 1, 1, MIN), x -> x.near(1, 1, 1, 100, 99));
         near(1, 1, 1, 0, 1, 15);
@@ -191,7 +184,7 @@ public final class LawEdgesTest {
 
     private static void witchDays() {
         Due.sentence("31: of n days (1 to 12): BAD");
-        bad("witch", x -> x.witch(0, 0, 1, 2, 0), x -> x.witch(13, 0, 1, 2, 0), x -> x.witch(-1, -1, 1, 2, 0),
+        Due.bad("witch", x -> x.witch(0, 0, 1, 2, 0), x -> x.witch(13, 0, 1, 2, 0), x -> x.witch(-1, -1, 1, 2, 0),
                 x -> x.witch(-1, 0, 1, 2, 0), x -> x.witch(MAX, 0, 1, 2, 0), x -> x.witch(MIN, 0, 1, 2, 0),
                 x -> x.witch(13, 13, 1, 2, 1));
         witch(1, 1, 1, 2, 1, 2);
@@ -201,7 +194,7 @@ public final class LawEdgesTest {
 
     private static void witchBadDays() {
         Due.sentence("31: k or more (0 to n): BAD");
-        bad("witch", x -> x.witch(5, -1, 1, 2, 0), x -> x.witch(5, 6, 1, 2, 0), x -> x.witch(1, 2, 1, 2, 0),
+        Due.bad("witch", x -> x.witch(5, -1, 1, 2, 0), x -> x.witch(5, 6, 1, 2, 0), x -> x.witch(1, 2, 1, 2, 0),
                 x -> x.witch(12, 13, 1, 2, 0), x -> x.witch(5, MAX, 1, 2, 0), x -> x.witch(5, MIN, 1, 2, 0));
         witch(5, 5, 1, 2, 1, 32);
         witch(5, 0, 1, 2, 1, 1);
@@ -210,7 +203,7 @@ public final class LawEdgesTest {
 
     private static void witchChance() {
         Due.sentence("31: each by a of b (0 to 9, 1 to 9; a no more than b): BAD");
-        bad("witch", x -> x.witch(5, 1, -1, 2, 0), x -> x.witch(5, 1, 3, 2, 0), x -> x.witch(5, 1, 0, 0, 0),
+        Due.bad("witch", x -> x.witch(5, 1, -1, 2, 0), x -> x.witch(5, 1, 3, 2, 0), x -> x.witch(5, 1, 0, 0, 0),
                 x -> x.witch(5, 1, 1, 10, 0), x -> x.witch(5, 1, 10, 10, 0), x -> x.witch(5, 1, 10, 9, 0),
                 x -> x.witch(5, 1, 1, 0, 0), x -> x.witch(5, 1, -1, -1, 0), x -> x.witch(5, 1, MIN, 1, 0),
                 x -> x.witch(5, 1, 1, MAX, 0), x -> x.witch(5, 1, 9, 8, 1));
@@ -224,7 +217,7 @@ public final class LawEdgesTest {
 
     private static void witchWhat() {
         Due.sentence("31: 0, 1; BAD");
-        bad("witch", x -> x.witch(5, 1, 1, 2, -1), x -> x.witch(5, 1, 1, 2, 2), x -> x.witch(5, 1, 1, 2, MAX),
+        Due.bad("witch", x -> x.witch(5, 1, 1, 2, -1), x -> x.witch(5, 1, 1, 2, 2), x -> x.witch(5, 1, 1, 2, MAX),
                 x -> x.witch(5, 1, 1, 2, MIN));
         witch(2, 1, 1, 3, 5, 9);
     }

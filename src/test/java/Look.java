@@ -134,7 +134,9 @@ final class Look {
         List<Integer> want = all(made.get());
         for (int i = 0; i < calls.length; i++) {
             ButterChurn x = made.get();
-            Due.is(what + ", refused call " + i, calls[i].on(x), answer);
+            if (!Due.is(what + ", refused call " + i, calls[i].on(x), answer)) {
+                return;
+            }
             Due.is(what + ", whether call " + i + " changed nothing", all(x).equals(want) ? 1 : 0, 1);
         }
     }

@@ -22,6 +22,7 @@ public final class RunsEdgesTest {
         planCows();
         planWhat();
         planNone();
+        planOfEach();
         planLastTurn();
         planHardness();
         planLeastLeft();
@@ -249,6 +250,18 @@ public final class RunsEdgesTest {
         Due.is("all soft", x.comes(1, 251, 9), NONE);
         Due.is("all hard", Due.told("cow 9 100;churn 400;beat 50 0;soft 400 1;drops 99 0 0 0;").comes(1, 0, 9), NONE);
         Due.is("half hard, half soft", x.comes(1, 200, 9) > 0 ? 1 : 0, 1);
+        // Just part soft, part hard: HARDNESS 1 and 99 come, by RATE 3.
+        String text = "cow 50 1;cow 50 99;drops 0 0 99 0;grain 3;beat 50 0;soft 130 1;heat 99;churn 400;";
+        ButterChurn just = Due.told(text);
+        for (int cows = 1; cows <= 2; cows++) {
+            int came = just.comes(cows, 130, 9);
+            Due.is("whether it comes by RATE 3", came > 0 ? 1 : 0, 1);
+            just.fill(cows, 130);
+            just.turn(came - 1, 9);
+            Due.is("now(5), a TURN less", just.now(5), NONE);
+            just.turn(1, 9);
+            Due.is("now(5)", just.now(5), came - 1);
+        }
     }
 
     // ---- promise 17
@@ -275,6 +288,26 @@ public final class RunsEdgesTest {
             Due.is("plan of SWOLLEN", Due.told("cow 10 50;churn 10;").plan(1, what), NONE);
         }
         plan("cow 1 50;drops 0 0 0 9;grain 3;beat 0 0;soft 0 1;heat 99;good 60 90;", NONE);
+    }
+
+    private static void planOfEach() {
+        Due.sentence("17: a PLAN for COWS: by itself, whatever was asked ahead");
+        // The second is too hard to come, and by none nothing comes.
+        ButterChurn x = Due.told("cow 1 50;cow 1 100;drops 0 0 0 4;grain 4;beat 10 0;soft 130 1;heat 99;");
+        int[] due = {0, 9, 6, 16};
+        for (int i = 0; i < 2; i++) {
+            for (int what = 0; what < 4; what++) {
+                Due.is("plan(1, " + what + ")", x.plan(1, what), due[what]);
+                Due.is("plan(0, " + what + ")", x.plan(0, what), NONE);
+                Due.is("plan(2, " + what + ")", x.plan(2, what), NONE);
+            }
+        }
+        String text = "cow 1 43;drops 17 6 8 6;soft 200 50;beat 50 0;grain 4;heat 99;churn 400;";
+        ButterChurn y = Due.told("cow 2 43;" + text);
+        Due.is("plan(2, 3)", y.plan(2, 3), 29);
+        int both = y.plan(3, 3);
+        Due.is("whether plan(3, 3) is of three litres", both > 29 ? 1 : 0, 1);
+        Due.is("plan(2, 3), once more", y.plan(2, 3), 29);
     }
 
     private static void planLastTurn() {

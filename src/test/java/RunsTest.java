@@ -117,7 +117,7 @@ public final class RunsTest {
     private static void plans() {
         ButterChurn x = Due.told(SOME);
         for (int cows = 0; cows < 8; cows++) {
-            int[] best = bestPlan(x, cows, 30, 60);
+            int[] best = bestPlan(40, cows, 30, 60);
             for (int what = 0; what < 4; what++) {
                 Due.is("plan(" + cows + ", " + what + ")", x.plan(cows, what), best[what]);
             }
@@ -128,15 +128,18 @@ public final class RunsTest {
         Due.is("plan(7, -1)", x.plan(7, -1), ButterChurn.BAD);
         Due.is("plan(0, 0)", x.plan(0, 0), ButterChurn.NONE);
         x.feeds(0, 5);
-        int[] best = bestPlan(x, 1, 30, 60);
+        int[] best = bestPlan(5, 1, 30, 60);
         for (int what = 0; what < 4; what++) {
             Due.is("plan(1, " + what + ") behind feeds()", x.plan(1, what), best[what]);
         }
     }
 
-    private static int[] bestPlan(ButterChurn x, int cows, int low, int high) {
+    /** The best of all runs of an object whose first cow has another HARD; one object for each pace. */
+    private static int[] bestPlan(int hard, int cows, int low, int high) {
         int[] best = {ButterChurn.NONE, ButterChurn.NONE, ButterChurn.NONE, ButterChurn.NONE};
         for (int pace = 9; pace > 0; pace--) {
+            ButterChurn x = Due.told(SOME);
+            x.feeds(0, hard);
             for (int warm = 400; warm >= 0; warm -= 20) {
                 int turns = x.comes(cows, warm, pace);
                 if (turns > 0) {
@@ -266,10 +269,12 @@ public final class RunsTest {
         int first = ButterChurn.NONE;
         int byPace = ButterChurn.NONE;
         for (int w = 400; w >= 0; w -= 20) {
+            ButterChurn y = Due.told(SOME);
+            y.feeds(0, x.cow(0, 1));
             for (int p = 9; p >= 1; p--) {
                 boolean all = true;
                 for (int i = 0; i < many; i++) {
-                    all = all && Math.max(0, x.comes(cows[i], w, p)) == toldTurns[i];
+                    all = all && Math.max(0, y.comes(cows[i], w, p)) == toldTurns[i];
                 }
                 if (all) {
                     ways++;
@@ -343,11 +348,9 @@ public final class RunsTest {
             } else if (deed > 1) {
                 x.warm(Math.max(0, Math.min(400, x.now(1) + (deed == 2 ? 20 : -20))));
             }
-            int turns = 0;
-            while (turns < 400 && x.now(5) == ButterChurn.NONE) {
-                x.turn(1, pace);
-                turns++;
-            }
+            int from = x.now(4);
+            x.turn(400, pace);
+            int turns = x.now(5) - from + 1;
             if (x.now(5) != ButterChurn.NONE && (soonest == ButterChurn.NONE || turns <= soonest)) {
                 soonest = turns;
                 best = deed;

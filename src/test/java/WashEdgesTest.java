@@ -1,6 +1,6 @@
 /** Promises 24 to 28: each sentence that names a boundary case, by itself. */
 public final class WashEdgesTest {
-    private static final int BAD = ButterChurn.BAD, NONE = ButterChurn.NONE;
+    private static final int NONE = ButterChurn.NONE;
     private static final int MIN = Integer.MIN_VALUE, MAX = Integer.MAX_VALUE;
 
     private WashEdgesTest() {
@@ -43,17 +43,11 @@ public final class WashEdgesTest {
         Due.is(call + ", 1)", x.wash(m, w, k, 1), under);
     }
 
-    private static void bad(String what, Look.Call... calls) {
-        for (int i = 0; i < calls.length; i++) {
-            Due.is("bad " + what + " " + i, calls[i].on(new ButterChurn()), BAD);
-        }
-    }
-
     // ---- promise 24
 
     private static void washMilk() {
         Due.sentence("24: of milk m (1 to 99): BAD");
-        bad("wash", x -> x.wash(0, 5, 1, 0), x -> x.wash(100, 5, 1, 0), x -> x.wash(-1, 5, 1, 0),
+        Due.bad("wash", x -> x.wash(0, 5, 1, 0), x -> x.wash(100, 5, 1, 0), x -> x.wash(-1, 5, 1, 0),
                 x -> x.wash(0, 5, 0, 1), x -> x.wash(0, 0, 0, 0), x -> x.wash(MAX, 5, 1, 0),
                 x -> x.wash(MIN, 5, 1, 0));
         wash(1, 5, 1, 1, 6);
@@ -64,7 +58,7 @@ public final class WashEdgesTest {
 
     private static void washWater() {
         Due.sentence("24: with water w (0 to 99) each: BAD");
-        bad("wash", x -> x.wash(5, -1, 1, 0), x -> x.wash(5, 100, 1, 0), x -> x.wash(5, -5, 1, 0),
+        Due.bad("wash", x -> x.wash(5, -1, 1, 0), x -> x.wash(5, 100, 1, 0), x -> x.wash(5, -5, 1, 0),
                 x -> x.wash(5, -1, 0, 0), x -> x.wash(5, 100, 0, 1), x -> x.wash(5, MAX, 1, 0),
                 x -> x.wash(5, MIN, 1, 0));
         for (int k = 0; k <= 5; k++) {
@@ -77,7 +71,7 @@ public final class WashEdgesTest {
 
     private static void washTimes() {
         Due.sentence("24: behind k WASHES (0 to 5): BAD");
-        bad("wash", x -> x.wash(5, 5, -1, 0), x -> x.wash(5, 5, 6, 0), x -> x.wash(5, 0, 6, 1),
+        Due.bad("wash", x -> x.wash(5, 5, -1, 0), x -> x.wash(5, 5, 6, 0), x -> x.wash(5, 0, 6, 1),
                 x -> x.wash(5, 5, MAX, 0), x -> x.wash(5, 5, MIN, 0));
         long under = 1;
         for (int k = 0; k <= 5; k++) {
@@ -89,7 +83,7 @@ public final class WashEdgesTest {
 
     private static void washWhat() {
         Due.sentence("24: how much stays: 0, 1; BAD");
-        bad("wash", x -> x.wash(5, 5, 1, -1), x -> x.wash(5, 5, 1, 2), x -> x.wash(5, 5, 1, MAX),
+        Due.bad("wash", x -> x.wash(5, 5, 1, -1), x -> x.wash(5, 5, 1, 2), x -> x.wash(5, 5, 1, MAX),
                 x -> x.wash(5, 5, 1, MIN));
         wash(5, 5, 1, 5, 2);
     }
@@ -123,7 +117,7 @@ public final class WashEdgesTest {
 
     private static void washesMilkAndWater() {
         Due.sentence("25: of milk m (1 to 99), water (0 to 99): BAD");
-        bad("washes", x -> x.washes(0, 5, 1, 1), x -> x.washes(100, 5, 1, 1), x -> x.washes(-1, 5, 1, 1),
+        Due.bad("washes", x -> x.washes(0, 5, 1, 1), x -> x.washes(100, 5, 1, 1), x -> x.washes(-1, 5, 1, 1),
                 x -> x.washes(5, -1, 1, 1), x -> x.washes(5, 100, 1, 1), x -> x.washes(5, -1, 99, 1),
                 x -> x.washes(MAX, 5, 1, 1), x -> x.washes(5, MIN, 1, 1), x -> x.washes(0, 0, 99, 1));
         washes(1, 0, 1, 1, 0);
@@ -135,7 +129,7 @@ public final class WashEdgesTest {
 
     private static void washesShare() {
         Due.sentence("25: a by b (0 to 99, 1 to 99): BAD");
-        bad("washes", x -> x.washes(5, 5, -1, 1), x -> x.washes(5, 5, 100, 1), x -> x.washes(5, 5, 1, 0),
+        Due.bad("washes", x -> x.washes(5, 5, -1, 1), x -> x.washes(5, 5, 100, 1), x -> x.washes(5, 5, 1, 0),
                 x -> x.washes(5, 5, 0, 0), x -> x.washes(5, 5, 1, 100), x -> x.washes(5, 5, 1, -1),
                 x -> x.washes(5, 5, MAX, 1), x -> x.washes(5, 5, 1, MIN), x -> x.washes(5, 5, 100, 99));
         washes(5, 5, 99, 1, 0);
@@ -196,7 +190,7 @@ public final class WashEdgesTest {
 
     private static void splitBounds() {
         Due.sentence("26: water w (0 to 99), milk (1 to 99): BAD");
-        bad("split", x -> x.split(5, -1), x -> x.split(5, 100), x -> x.split(0, 5), x -> x.split(100, 5),
+        Due.bad("split", x -> x.split(5, -1), x -> x.split(5, 100), x -> x.split(0, 5), x -> x.split(100, 5),
                 x -> x.split(-1, 5), x -> x.split(0, 0), x -> x.split(MAX, 5), x -> x.split(MIN, 5),
                 x -> x.split(5, MAX), x -> x.split(5, MIN));
     }
@@ -230,7 +224,7 @@ public final class WashEdgesTest {
 
     private static void workedValue() {
         Due.sentence("27: v (0 to 9999999): BAD");
-        bad("worked", x -> x.worked(-1, 0, 0), x -> x.worked(10000000, 0, 0), x -> x.worked(-1, 6, 6),
+        Due.bad("worked", x -> x.worked(-1, 0, 0), x -> x.worked(10000000, 0, 0), x -> x.worked(-1, 6, 6),
                 x -> x.worked(MAX, 0, 0), x -> x.worked(MIN, 0, 0));
         for (int k = 0; k <= 6; k++) {
             worked(0, 0, k, 0);
@@ -245,7 +239,7 @@ public final class WashEdgesTest {
 
     private static void workedPasses() {
         Due.sentence("27: behind p passes (0 to 6): BAD");
-        bad("worked", x -> x.worked(1, -1, 0), x -> x.worked(1, 7, 0), x -> x.worked(1, MAX, 0),
+        Due.bad("worked", x -> x.worked(1, -1, 0), x -> x.worked(1, 7, 0), x -> x.worked(1, MAX, 0),
                 x -> x.worked(1, MIN, 0));
         int[] zero = {9, 27, 63, 135, 279, 567, 1143};
         for (int p = 0; p <= 6; p++) {
@@ -261,7 +255,7 @@ public final class WashEdgesTest {
 
     private static void workedClass() {
         Due.sentence("27: how many of CLASS k: BAD");
-        bad("worked", x -> x.worked(1, 0, -1), x -> x.worked(1, 0, 7), x -> x.worked(1, 6, 7),
+        Due.bad("worked", x -> x.worked(1, 0, -1), x -> x.worked(1, 0, 7), x -> x.worked(1, 6, 7),
                 x -> x.worked(1, 0, MAX), x -> x.worked(1, 0, MIN));
         worked(2000001, 0, 0, 1);
         worked(2000001, 0, 6, 2);
@@ -304,7 +298,7 @@ public final class WashEdgesTest {
 
     private static void keepsBounds() {
         Due.sentence("28: v (0 to 9999999), p (0 to 6): BAD");
-        bad("keeps", x -> x.keeps(-1, 0), x -> x.keeps(10000000, 0), x -> x.keeps(1, -1), x -> x.keeps(1, 7),
+        Due.bad("keeps", x -> x.keeps(-1, 0), x -> x.keeps(10000000, 0), x -> x.keeps(1, -1), x -> x.keeps(1, 7),
                 x -> x.keeps(0, 7), x -> x.keeps(MAX, 0), x -> x.keeps(MIN, 0), x -> x.keeps(1, MAX),
                 x -> x.keeps(1, MIN));
         keeps(9999999, 0, 1);
