@@ -629,8 +629,8 @@ public final class ButterChurn {
     private static final class Told {
         static final int CHURN = 0, BASE = 1, SLOPE = 2, BEAT = 3, SWELL = 4, GRAIN = 5, HEAT = 6;
         static final int LOW = 7, HIGH = 8;
-        /** How many numbers a text tells: a cow's two, the drops of a litre, the rules. */
-        static final int ALL = 15;
+        /** All numbers that a text tells, in a row: a cow's two, the drops of a litre, the rules. */
+        static final int COW_LITRES = 0, COW_HARD = 1, FIRST_DROP = 2, FIRST_RULE = 6;
         private static final int[] FIRST_RULES = {100, 130, 10, 10, 20, 4, 10, 20, 80};
         private static final int[] FIRST_DROPS = {64, 16, 4, 0};
 
@@ -660,13 +660,13 @@ public final class ButterChurn {
 
         /** One of all the numbers that a text tells; those of a cow are the coming one's. */
         void put(int which, int v) {
-            if (which >= 6 && which - 6 < rules.length) {
-                rules[which - 6] = v;
-            } else if (which >= 2 && which - 2 < litreDrops.length) {
-                litreDrops[which - 2] = v;
-            } else if (which == 1 && cows < hards.length) {
+            if (which >= FIRST_RULE && which - FIRST_RULE < rules.length) {
+                rules[which - FIRST_RULE] = v;
+            } else if (which >= FIRST_DROP && which - FIRST_DROP < litreDrops.length) {
+                litreDrops[which - FIRST_DROP] = v;
+            } else if (which == COW_HARD && cows < hards.length) {
                 hards[cows] = v;
-            } else if (which == 0 && cows < litres.length) {
+            } else if (which == COW_LITRES && cows < litres.length) {
                 litres[cows] = v;
             }
         }
@@ -1118,7 +1118,7 @@ public final class ButterChurn {
                 return;
             }
             // High may be no less than low, which is told just ahead of it.
-            int least = which == Told.ALL - 1 ? draft.rules[Told.LOW] : LEAST[which];
+            int least = which == Told.FIRST_RULE + Told.HIGH ? draft.rules[Told.LOW] : LEAST[which];
             if (outside(tape.number, least, MOST[which])) {
                 refuse(OUT_OF_BOUNDS);
                 return;
